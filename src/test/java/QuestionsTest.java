@@ -13,6 +13,7 @@ public final class QuestionsTest {
         remedied();
         gains();
         gainsOfDays();
+        allActs();
         questionsChangeNothing();
         Check.end();
     }
@@ -259,6 +260,25 @@ public final class QuestionsTest {
         Check.due("24: two less", hall.gains(Halls.RULE, 50), -2);
         Check.due("24: a question alters nothing", hall.fault(2), 1);
         Check.due("24: nor the limit", hall.limit(Halls.RULE, 1), 90);
+    }
+
+    private static void allActs() {
+        Grievancehall hall = new Grievancehall();
+        hall.office(NONE);
+        for (int i = 0; i < 24; i++) {
+            Halls.act(hall, Halls.DELAY, 0, i == 23 ? 63 : 31, 100);
+        }
+        Check.due("21: of 24 acts", hall.fault(23), 3);
+        Check.due("21: of 24 acts", hall.fault(0), 1);
+        Check.due("22: of 24 acts", hall.likes(0), 23);
+        Check.due("24: of 24 acts", hall.gains(Halls.DELAY, 62), -23);
+        hall.plea(0, 23);
+        hall.pass(10);
+        hall.complain(0, 23);
+        Halls.findAll(hall, 0);
+        Check.due("17: for 24 acts", hall.remedy(0, 7), 24);
+        Check.due("23: of 24 acts", hall.remedied(0), 7);
+        Check.due("23: of 24 acts", hall.remedied(23), 7);
     }
 
     private static void questionsChangeNothing() {
