@@ -6,8 +6,18 @@ final class Check {
 
     private static int made = 0;
     private static int wrong = 0;
+    private static String part = "";
 
     private Check() {
+    }
+
+    /** What the checks from now on are about: told ahead of each that is wrong. */
+    static void part(String of) {
+        part = of;
+    }
+
+    static int howMany() {
+        return made;
     }
 
     static void due(String what, long got, long want) {
@@ -68,7 +78,7 @@ final class Check {
     private static void tell(String text) {
         wrong++;
         if (wrong <= 50) {
-            System.out.println(text);
+            System.out.println(part + text);
         }
     }
 }

@@ -14,7 +14,6 @@ public final class QuestionsTest {
         gains();
         gainsOfDays();
         allActs();
-        questionsChangeNothing();
         Check.end();
     }
 
@@ -279,16 +278,5 @@ public final class QuestionsTest {
         Check.due("17: for 24 acts", hall.remedy(0, 7), 24);
         Check.due("23: of 24 acts", hall.remedied(0), 7);
         Check.due("23: of 24 acts", hall.remedied(23), 7);
-    }
-
-    private static void questionsChangeNothing() {
-        Grievancehall hall = Halls.withComplaint(31);
-        Halls.act(hall, Halls.RULE, 0, 60, 20);
-        hall.ask(0);
-        hall.letter('r');
-        String ahead = Halls.picture(hall);
-        Check.same("19 to 24: questions change nothing", Halls.picture(hall), ahead);
-        Check.due("19 to 24: nor the word", hall.letter('u'), 2);
-        Check.due("19 to 24: nor the day", hall.pass(1), 11);
     }
 }

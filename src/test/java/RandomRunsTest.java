@@ -1,5 +1,4 @@
 import java.util.ArrayList;
-import java.util.Arrays;
 import java.util.List;
 import java.util.Map;
 import java.util.Random;
@@ -9,9 +8,12 @@ import java.util.TreeMap;
 public final class RandomRunsTest {
     private static final int RUNS = 3000;
     private static final int CALLS = 512;
-    private static final int LATER_CALLS = 700;
+    private static final int LATER_CALLS = 20000;
     private static final int[] STRANGE = {Integer.MIN_VALUE, -101, -2, -1, 0, 4, 9, 10, 16, 24, 100, 101, 1001,
         Integer.MAX_VALUE};
+
+    private static final List<String> REFUSALS = List.of("java.lang.IndexOutOfBoundsException",
+        "java.lang.IllegalArgumentException", "java.lang.IllegalStateException");
 
     private static final Map<String, Integer> seen = new TreeMap<>();
 
@@ -23,7 +25,7 @@ public final class RandomRunsTest {
             run(seed);
         }
         everyAnswerIsSeen();
-        manyChangesAfterTheLastCall();
+        callsAfterTheLast();
         Check.end();
     }
 
@@ -36,25 +38,22 @@ public final class RandomRunsTest {
         while (told.size() < CALLS) {
             boolean first = told.isEmpty() && seed % 4 != 0;
             for (Step step : first ? beginning(random) : steps(random)) {
-                if (random.nextInt(strangeness) == 0) {
-                    step.args[random.nextInt(step.args.length)] = STRANGE[random.nextInt(STRANGE.length)];
+                if (told.size() == CALLS) {
+                    break;
                 }
-                String got = answer(hall, null, step);
-                String due = answer(null, slow, step);
+                if (random.nextInt(strangeness) == 0) {
+                    step.args()[random.nextInt(step.args().length)] = STRANGE[random.nextInt(STRANGE.length)];
+                }
+                String got = step.answerOf(hall);
+                String due = answer(slow, step);
                 told.add(step + " " + got);
-                seen.merge(step.name + " " + kindOf(got), 1, Integer::sum);
+                seen.merge(step.name() + " " + kindOf(got), 1, Integer::sum);
                 Check.same("seed " + seed + ", call " + told.size() + " " + step, got, due);
                 if (!got.equals(due)) {
                     told.forEach(System.out::println);
                     return;
                 }
             }
-        }
-    }
-
-    private record Step(String name, int... args) {
-        public String toString() {
-            return name + Arrays.toString(args);
         }
     }
 
@@ -123,40 +122,11 @@ public final class RandomRunsTest {
         return steps;
     }
 
-    private static String answer(Grievancehall hall, SlowHall slow, Step step) {
+    private static String answer(SlowHall slow, Step step) {
         try {
-            return "" + (slow == null ? call(hall, step.name, step.args) : slow.call(step.name, step.args));
+            return "" + slow.call(step.name(), step.args());
         } catch (RuntimeException e) {
             return e.getClass().getName();
-        }
-    }
-
-    private static long call(Grievancehall hall, String name, int[] a) {
-        switch (name) {
-            case "letter": return hall.letter((char) a[0]);
-            case "office": return hall.office(a[0]);
-            case "delegate": return hall.delegate(a[0], a[1]);
-            case "whose": return hall.whose(a[0], a[1]);
-            case "limit": return hall.limit(a[0], a[1]);
-            case "act": return hall.act(a[0], a[1], a[2]);
-            case "court": return hall.court(a[0], a[1] == 1) ? 1 : 0;
-            case "waive": return hall.waive(a[0], a[1] == 1) ? 1 : 0;
-            case "plea": hall.plea(a[0], a[1]); return 0;
-            case "bar": return hall.bar(a[0], a[1]);
-            case "complain": return hall.complain(a[0], a[1]);
-            case "ask": return hall.ask(a[0]);
-            case "answer": return hall.answer(a[0]);
-            case "hear": hall.hear(a[0]); return 0;
-            case "find": return hall.find(a[0]);
-            case "remedy": return hall.remedy(a[0], a[1]);
-            case "pass": return hall.pass(a[0]);
-            case "about": return hall.about(a[0], a[1]);
-            case "reminder": return hall.reminder(a[0]);
-            case "fault": return hall.fault(a[0]);
-            case "likes": return hall.likes(a[0]);
-            case "remedied": return hall.remedied(a[0]);
-            case "gains": return hall.gains(a[0], a[1]);
-            default: throw new AssertionError(name);
         }
     }
 
@@ -181,15 +151,25 @@ public final class RandomRunsTest {
     }
 
     /** What is answered after 512 calls is free, but nothing of the machine's own may be thrown then. */
-    private static void manyChangesAfterTheLastCall() {
-        Grievancehall hall = new Grievancehall();
-        hall.office(Grievancehall.NONE);
-        hall.office(0);
+    private static void callsAfterTheLast() {
+        Grievancehall told = new Grievancehall();
+        told.office(Grievancehall.NONE);
+        told.office(0);
         for (int i = 0; i < LATER_CALLS; i++) {
-            hall.delegate(0, i % 2 == 0 ? 1 : Grievancehall.NONE);
-            hall.limit(0, i % 101);
+            told.delegate(0, i % 2 == 0 ? 1 : Grievancehall.NONE);
+            told.limit(0, i % 101);
         }
-        int whose = hall.whose(0, 0);
+        int whose = told.whose(0, 0);
         Check.due("after the last call", whose == 0 || whose == 1, true);
+
+        Random random = new Random(512);
+        Grievancehall any = new Grievancehall();
+        for (int i = 0; i < LATER_CALLS; i++) {
+            for (Step step : i == 0 ? beginning(random) : steps(random)) {
+                String answer = step.answerOf(any);
+                boolean isDue = !answer.startsWith("java") || REFUSALS.contains(answer);
+                Check.due(step + " after the last call answers " + answer, isDue, true);
+            }
+        }
     }
 }
